@@ -16,7 +16,7 @@ public final class FedStatues {
     private static final int MOST_BYTES = 1600;
     private static final int BYTES_FED = 20;
     private static final int MOST_COINS = 999999;
-    private static final int MOST_GIVEN = 9999;
+    private static final int MOST_PURSE = 9999;
     private static final int LAST_DAY = 9999;
     private static final int MOST_DAYS = 100;
     private static final int MOST_AHEAD = 60;
@@ -52,7 +52,6 @@ public final class FedStatues {
     private boolean todayKnown;
     private final Table work = new Table();
     private final Ahead ahead = new Ahead();
-    private final Rounds rounds = new Rounds();
     private final Choice choice = new Choice();
     private final Guests guests = new Guests();
     private final Places places = new Places();
@@ -106,7 +105,6 @@ public final class FedStatues {
         now.begin(town);
         pastCount = 0;
         guests.rows = 0;
-        rounds.known = false;
         stateChanged();
         return parser.statements;
     }
@@ -253,24 +251,33 @@ public final class FedStatues {
 
     // ---- rounds, carriers, what to keep
 
+    // No place lies ahead of where a carrier begins, so up the street he comes to each statue as soon as
+    // anybody can, and every way back would end later: that is the round, and one carrier is enough or none.
+
     public int round(int k) {
-        rounds.reckon(town);
-        if (rounds.minutes == NONE) {
+        if (!town.staysWarm()) {
             return NONE;
         }
         if (k == NONE) {
-            return rounds.minutes;
+            return town.farthest() * town.pace;
         }
-        return k < 0 || k >= rounds.stops ? NONE : rounds.order[k];
+        for (int statue = 0; statue < town.named[STATUE_SORT]; statue++) {
+            if (town.deedsAt(statue) > 0 && town.stopsAhead(statue) == k) {
+                return statue;
+            }
+        }
+        return NONE;
     }
 
     public int carriers() {
-        rounds.reckon(town);
-        return rounds.crew;
+        if (!town.staysWarm()) {
+            return NONE;
+        }
+        return town.deeds > 0 ? 1 : 0;
     }
 
     public int keep(int coins, int what) {
-        if (coins < 0 || coins > MOST_GIVEN || what < 0 || what > 2) {
+        if (coins < 0 || coins > MOST_PURSE || what < 0 || what > 2) {
             return NONE;
         }
         choice.reckon(town, now.portions, coins);
@@ -409,12 +416,12 @@ public final class FedStatues {
     }
 
     private int drawOfHundred() {
-        drawn = (int) ((1103515245L * drawn + 12345L) & Integer.MAX_VALUE);
+        drawn = (int) ((1103515245L * drawn + 12345L) & 0x7fffffffL);
         return drawn / 64 % 100;
     }
 
     public int give(int coins) {
-        if (coins < 1 || coins > MOST_GIVEN || now.coins + coins > MOST_COINS) {
+        if (coins < 1 || coins > MOST_PURSE || now.coins + coins > MOST_COINS) {
             return refuse(3);
         }
         rememberState();
@@ -686,6 +693,35 @@ public final class FedStatues {
                 }
             }
             return least;
+        }
+
+        /** Whether each dish is still warm when one goes straight to where it is due. */
+        boolean staysWarm() {
+            for (int deed = 0; deed < deeds; deed++) {
+                if (place[deedStatue[deed]] * pace > warm[deedDish[deed]]) {
+                    return false;
+                }
+            }
+            return true;
+        }
+
+        int farthest() {
+            int most = 0;
+            for (int deed = 0; deed < deeds; deed++) {
+                most = Math.max(most, place[deedStatue[deed]]);
+            }
+            return most;
+        }
+
+        int stopsAhead(int statue) {
+            int count = 0;
+            for (int other = 0; other < named[STATUE_SORT]; other++) {
+                boolean nearer = place[other] < place[statue] || place[other] == place[statue] && other < statue;
+                if (nearer && deedsAt(other) > 0) {
+                    count++;
+                }
+            }
+            return count;
         }
     }
 
@@ -1000,155 +1036,6 @@ public final class FedStatues {
                 failsIn = reached;
                 failsFirst = table.firstFailing(town);
             }
-        }
-    }
-
-    /** Rounds and carriers of a city, reckoned once, by sets of stops and the stop where one stands last. */
-    private static final class Rounds {
-        private static final int NEVER = 1000000;
-
-        boolean known;
-        int minutes;
-        int crew;
-        int stops;
-        final int[] order = new int[STATUES];
-        final int[] stop = new int[STATUES];
-        final int[] at = new int[STATUES];
-        final int[] limit = new int[STATUES];
-        final int[] time = new int[STATUES << STATUES];
-        final int[] crews = new int[1 << STATUES];
-        int pace;
-
-        void reckon(City town) {
-            if (known) {
-                return;
-            }
-            findStops(town);
-            findSoonest();
-            findMinutes();
-            findCrew();
-            if (minutes != NONE) {
-                findLatest();
-                findOrder();
-            }
-            known = true;
-        }
-
-        private void findStops(City town) {
-            stops = 0;
-            pace = town.pace;
-            for (int statue = 0; statue < town.named[STATUE_SORT]; statue++) {
-                if (town.deedsAt(statue) > 0) {
-                    stop[stops] = statue;
-                    at[stops] = town.place[statue] * pace;
-                    limit[stops] = town.warmAt(statue);
-                    stops++;
-                }
-            }
-        }
-
-        private static boolean holds(int set, int one) {
-            return (set >> one & 1) != 0;
-        }
-
-        /** time: the soonest one can stand at a stop of the set as its last, all others of it brought. */
-        private void findSoonest() {
-            for (int set = 1; set < 1 << stops; set++) {
-                for (int last = 0; last < stops; last++) {
-                    int soonest = holds(set, last) ? soonestAt(set ^ 1 << last, last) : NEVER;
-                    time[set * STATUES + last] = soonest <= limit[last] ? soonest : NEVER;
-                }
-            }
-        }
-
-        private int soonestAt(int before, int last) {
-            if (before == 0) {
-                return at[last];
-            }
-            int soonest = NEVER;
-            for (int from = 0; from < stops; from++) {
-                if (holds(before, from)) {
-                    int arrival = time[before * STATUES + from] + Math.abs(at[from] - at[last]);
-                    soonest = Math.min(soonest, arrival);
-                }
-            }
-            return soonest;
-        }
-
-        private int soonestEnd(int set) {
-            int soonest = NEVER;
-            for (int last = 0; last < stops; last++) {
-                soonest = Math.min(soonest, time[set * STATUES + last]);
-            }
-            return soonest;
-        }
-
-        private void findMinutes() {
-            int soonest = stops == 0 ? 0 : soonestEnd((1 << stops) - 1);
-            minutes = soonest < NEVER ? soonest : NONE;
-        }
-
-        private void findCrew() {
-            int all = (1 << stops) - 1;
-            crews[0] = 0;
-            for (int set = 1; set <= all; set++) {
-                int fewest = soonestEnd(set) < NEVER ? 1 : NEVER;
-                for (int part = (set - 1) & set; part > 0; part = (part - 1) & set) {
-                    fewest = Math.min(fewest, crews[part] + crews[set ^ part]);
-                }
-                crews[set] = fewest;
-            }
-            crew = crews[all] < NEVER ? crews[all] : NONE;
-        }
-
-        /** time, anew: the latest one may stand at a stop and still end in minutes; below 0 never. */
-        private void findLatest() {
-            int all = (1 << stops) - 1;
-            for (int set = all; set > 0; set--) {
-                for (int last = 0; last < stops; last++) {
-                    int latest = set == all ? minutes : latestToGoOn(set, last);
-                    time[set * STATUES + last] = Math.min(latest, limit[last]);
-                }
-            }
-        }
-
-        private int latestToGoOn(int set, int last) {
-            int latest = NONE;
-            for (int next = 0; next < stops; next++) {
-                if (!holds(set, next)) {
-                    int leave = time[(set | 1 << next) * STATUES + next] - Math.abs(at[next] - at[last]);
-                    latest = Math.max(latest, leave);
-                }
-            }
-            return latest;
-        }
-
-        private void findOrder() {
-            int set = 0;
-            int where = 0;
-            int clock = 0;
-            for (int k = 0; k < stops; k++) {
-                int next = firstInTime(set, where, clock);
-                if (next == NONE) {
-                    return;
-                }
-                clock += Math.abs(at[next] - where);
-                where = at[next];
-                set |= 1 << next;
-                order[k] = stop[next];
-            }
-        }
-
-        private int firstInTime(int set, int where, int clock) {
-            for (int next = 0; next < stops; next++) {
-                if (!holds(set, next)) {
-                    int arrival = clock + Math.abs(at[next] - where);
-                    if (arrival <= time[(set | 1 << next) * STATUES + next]) {
-                        return next;
-                    }
-                }
-            }
-            return NONE;
         }
     }
 
@@ -1499,7 +1386,7 @@ public final class FedStatues {
                 if (i == MOST_STATEMENTS) {
                     return wrong(TOO_MANY);
                 }
-                if (!statement() || !sign(';')) {
+                if (!statement() || !takeSign(';')) {
                     return false;
                 }
                 statements++;
@@ -1534,7 +1421,7 @@ public final class FedStatues {
 
         private boolean tellStatue() {
             int statue = newName(STATUE_SORT);
-            if (statue == NONE || !word(Reader.AT) || !number(0, 99)) {
+            if (statue == NONE || !takeWord(Reader.AT) || !takeNumber(0, 99)) {
                 return false;
             }
             town.place[statue] = number;
@@ -1543,11 +1430,11 @@ public final class FedStatues {
 
         private boolean tellDish() {
             int dish = newName(DISH_SORT);
-            if (dish == NONE || !word(Reader.COSTS) || !number(0, 99)) {
+            if (dish == NONE || !takeWord(Reader.COSTS) || !takeNumber(0, 99)) {
                 return false;
             }
             town.cost[dish] = number;
-            if (!word(Reader.WARM) || !number(1, 999)) {
+            if (!takeWord(Reader.WARM) || !takeNumber(1, 999)) {
                 return false;
             }
             town.warm[dish] = number;
@@ -1572,7 +1459,7 @@ public final class FedStatues {
                 return wrong(NAME_UNKNOWN);
             }
             reader.next();
-            if (!number(1, MOST_PORTIONS)) {
+            if (!takeNumber(1, MOST_PORTIONS)) {
                 return false;
             }
             town.deedStatue[town.deeds] = statue;
@@ -1584,11 +1471,11 @@ public final class FedStatues {
 
         private boolean tellEater() {
             int eater = newName(EATER_SORT);
-            if (eater == NONE || !word(Reader.HUNGER) || !number(1, MOST_HUNGER)) {
+            if (eater == NONE || !takeWord(Reader.HUNGER) || !takeNumber(1, MOST_HUNGER)) {
                 return false;
             }
             town.hunger[eater] = number;
-            if (!word(Reader.AT) || !number(0, 99)) {
+            if (!takeWord(Reader.AT) || !takeNumber(0, 99)) {
                 return false;
             }
             town.sleeps[eater] = number;
@@ -1607,7 +1494,7 @@ public final class FedStatues {
                 return false;
             }
             reader.next();
-            if (!number(0, 99)) {
+            if (!takeNumber(0, 99)) {
                 return false;
             }
             town.likes[eater][dish] = number;
@@ -1616,11 +1503,11 @@ public final class FedStatues {
 
         private boolean tellFund() {
             reader.next();
-            if (!number(0, 9999)) {
+            if (!takeNumber(0, 9999)) {
                 return false;
             }
             town.fund = number;
-            if (!word(Reader.GROWS) || !number(0, 100)) {
+            if (!takeWord(Reader.GROWS) || !takeNumber(0, 100)) {
                 return false;
             }
             town.grows = number;
@@ -1629,7 +1516,7 @@ public final class FedStatues {
 
         private boolean tellPace() {
             reader.next();
-            if (!number(1, 20)) {
+            if (!takeNumber(1, 20)) {
                 return false;
             }
             town.pace = number;
@@ -1638,7 +1525,7 @@ public final class FedStatues {
 
         private boolean tellSiege() {
             reader.next();
-            if (!number(0, 100)) {
+            if (!takeNumber(0, 100)) {
                 return false;
             }
             town.siege = number;
@@ -1694,7 +1581,7 @@ public final class FedStatues {
             return which;
         }
 
-        private boolean number(int least, int most) {
+        private boolean takeNumber(int least, int most) {
             if (reader.kind != Reader.NUMBER) {
                 return wrong(CANNOT_GO_ON);
             }
@@ -1714,7 +1601,7 @@ public final class FedStatues {
             return reader.kind == Reader.SIGN && reader.value == sign;
         }
 
-        private boolean word(int word) {
+        private boolean takeWord(int word) {
             if (!isWord(word)) {
                 return wrong(CANNOT_GO_ON);
             }
@@ -1722,7 +1609,7 @@ public final class FedStatues {
             return true;
         }
 
-        private boolean sign(char sign) {
+        private boolean takeSign(char sign) {
             if (!isSign(sign)) {
                 return wrong(CANNOT_GO_ON);
             }
@@ -1730,11 +1617,11 @@ public final class FedStatues {
             return true;
         }
 
-        private boolean bracket(char sign, int open) {
-            return isSign(sign) && open >= MOST_OPEN ? wrong(TOO_DEEP) : sign(sign);
+        private boolean openBracket(char sign, int open) {
+            return isSign(sign) && open >= MOST_OPEN ? wrong(TOO_DEEP) : takeSign(sign);
         }
 
-        private boolean step(int step) {
+        private boolean addStep(int step) {
             town.sums.add(step);
             return true;
         }
@@ -1773,17 +1660,17 @@ public final class FedStatues {
 
         private boolean part(int open) {
             if (isSign('(')) {
-                return bracket('(', open) && sum(open + 1) && sign(')');
+                return openBracket('(', open) && sum(open + 1) && takeSign(')');
             }
             if (isWord(Reader.MIN) || isWord(Reader.MAX)) {
                 int step = reader.value == Reader.MIN ? Sums.MIN : Sums.MAX;
                 reader.next();
-                return bracket('(', open) && sum(open + 1) && sign(',') && sum(open + 1) && sign(')') && step(step);
+                return openBracket('(', open) && sum(open + 1) && takeSign(',') && sum(open + 1) && takeSign(')') && addStep(step);
             }
             if (isWord(Reader.IF)) {
                 reader.next();
-                return bracket('(', open) && test(open + 1) && sign(',') && sum(open + 1) && sign(',')
-                    && sum(open + 1) && sign(')') && step(Sums.IF);
+                return openBracket('(', open) && test(open + 1) && takeSign(',') && sum(open + 1) && takeSign(',')
+                    && sum(open + 1) && takeSign(')') && addStep(Sums.IF);
             }
             return leaf();
         }
@@ -1854,14 +1741,14 @@ public final class FedStatues {
                     return wrong(TOO_DEEP);
                 }
                 reader.next();
-                return fact(open + 1) && step(Sums.NOT);
+                return fact(open + 1) && addStep(Sums.NOT);
             }
             if (isSign('[')) {
-                return bracket('[', open) && test(open + 1) && sign(']');
+                return openBracket('[', open) && test(open + 1) && takeSign(']');
             }
             if (isWord(Reader.ALL)) {
                 reader.next();
-                return step(1);
+                return addStep(1);
             }
             return sum(open) && comparison(open);
         }
@@ -1872,7 +1759,7 @@ public final class FedStatues {
             }
             int step = reader.value == '<' ? Sums.BELOW : reader.value == '>' ? Sums.ABOVE : Sums.SAME;
             reader.next();
-            return sum(open) && step(step);
+            return sum(open) && addStep(step);
         }
     }
 }
