@@ -225,6 +225,10 @@ public final class PromiseTests {
         fault("dish a costs 1warm 2;", 1, 14);
         fault("dish a warm 2;", 1, 7);
         fault("fund 5 5;", 1, 7);
+        fault("fund ;", 1, 5);
+        fault("pace ;", 1, 5);
+        fault("siege ;", 1, 6);
+        fault("fund grows 5;", 1, 5);
         fault("pace 1;;", 1, 7);
         fault("pace 1,", 1, 6);
         fault("pace\t1;", 1, 4);
@@ -234,6 +238,9 @@ public final class PromiseTests {
 
     private static void faultsOfSums() {
         fault("leaves;", 1, 6);
+        fault("leaves 1*;", 1, 9);
+        fault("leaves if(all or,1,2);", 1, 16);
+        fault("leaves if(all or 1,1,2);", 1, 18);
         fault("leaves off;", 1, 7);
         fault("leaves hunger;", 1, 7);
         fault("leaves left;", 1, 7);
@@ -316,6 +323,12 @@ public final class PromiseTests {
         good("leaves if(" + times(6, "not ") + "all,1,2);", 1);
         fault("leaves if(" + times(7, "not "), 5, 10 + 24);
         good("leaves if(" + times(6, "not ") + "1=1 and " + times(6, "not ") + "all,1,2);", 1);
+        for (String each : new String[] {"min(@,1)", "min(1,@)", "max(@,1)", "max(1,@)", "if(all,@,1)", "if(all,1,@)", "if(@=1,1,2)",
+            "if(1=@,1,2)", "if([all and @=1],1,2)", "if(not @<1,1,2)"}) {
+            int own = each.contains("[") || each.contains("not") ? 2 : 1;
+            good("leaves " + each.replace("@", times(7 - own, "(") + "1" + times(7 - own, ")")) + ";", 1);
+            fault("leaves " + each.replace("@", times(8 - own, "(")), 5, 7 + each.indexOf('@') + 7 - own);
+        }
         fault("leaves if(" + times(7, "["), 5, 16);
         fault("leaves if([not if([(max((1", 5, 24);
         fault("leaves if(not [not [not [(1+(2", 5, 25);
@@ -474,6 +487,9 @@ public final class PromiseTests {
         due("broken", x.plate(0, 2), 1);
         due("nothing put", x.plate(0, 0), 0);
         due("the next one", x.plate(1, 0), 3);
+        x.undo();
+        due("undone", x.plate(0, 0), 2);
+        x.change(0, 9);
         x.change(0, 6);
         due("18 coins of 20", x.plate(0, 0), 6);
         due("2 are not 3", x.plate(1, 2), 1);
@@ -619,6 +635,8 @@ public final class PromiseTests {
         due("left", y.later(5, 2), 7);
         due("grown", y.later(1, 0), 19998);
         due("most", y.later(60, 0), 999999);
+        due("without a siege, by the day", of("statue s at 0;dish d costs 1 warm 1;deed s d 9;siege 100;fund 90 grows 0;"
+            + "leaves if(siege=0,day*2+1,9);").later(4, 0), 90 - 1 - 3 - 5 - 7);
         FedStatues z = atDay(9998, 0);
         due("one more", z.later(1, 0), 0);
         due("two more", z.later(2, 0), NONE);
@@ -703,6 +721,12 @@ public final class PromiseTests {
         due("like ones: 2", w.round(2), 1);
         w.change(0, 0);
         due("a deed of nothing is a deed", w.round(2), 1);
+        FedStatues bare = of("statue bare at 1;statue less at 2;statue a at 2;statue b at 2;dish d costs 1 warm 2;deed b d 1;deed a d 1;");
+        due("bare ones are passed", bare.round(0), 2);
+        due("bare ones are passed, then", bare.round(1), 3);
+        due("bare ones are passed, end", bare.round(2), NONE);
+        due("the first deed counts", of("statue a at 9;statue b at 1;dish d costs 1 warm 9;deed a d 1;deed b d 1;").round(NONE), 9);
+        due("the first deed cools", of("statue a at 9;statue b at 1;dish d costs 1 warm 8;deed a d 1;deed b d 1;").round(NONE), NONE);
         FedStatues v = of("statue far at 10;statue near at 0;dish d costs 1 warm 10;deed far d 1;deed near d 1;");
         due("0 is where he begins", v.round(0), 1);
         due("0 minutes without", new FedStatues().round(NONE), 0);
@@ -712,7 +736,7 @@ public final class PromiseTests {
         due("one", of(SMALL).carriers(), 1);
         due("all are not enough", of(SMALL + "pace 2;").carriers(), NONE);
         due("none are needed", of("statue s at 9;").carriers(), 0);
-        // at 5 and 10 within 10: one; two at places that need their own could not be on a line from 0 on one side
+        due("one deed", of("statue s at 9;dish d costs 1 warm 9;deed s d 1;").carriers(), 1);
         FedStatues x = of("statue a at 9;statue b at 3;dish hot costs 1 warm 9;dish cool costs 1 warm 3;deed a hot 1;deed b cool 1;");
         due("on the way", x.carriers(), 1);
         due("late", of("statue a at 9;dish d costs 1 warm 8;deed a d 1;").carriers(), NONE);
@@ -740,7 +764,7 @@ public final class PromiseTests {
         due("least bits, coins", y.keep(12, 2), 12);
         due("fewer coins", y.keep(11, 0), 6);
         due("four by two", y.keep(20, 0), 7);
-        due("free ones are left out", of("statue a at 0;dish d costs 0 warm 1;deed a d 2;").keep(0, 1), 2);
+        due("free ones are kept", of("statue a at 0;dish d costs 0 warm 1;deed a d 2;").keep(0, 1), 2);
     }
 
     private static void p19Feeds() {
@@ -754,6 +778,8 @@ public final class PromiseTests {
         due("feeds(-1,0)", x.feeds(-1, 0), NONE);
         due("feeds(0,2)", x.feeds(0, 2), NONE);
         due("feeds(0,-1)", x.feeds(0, -1), NONE);
+        due("feeds(1,2)", x.feeds(1, 2), NONE);
+        due("feeds(1,-1)", x.feeds(1, -1), NONE);
         due("nothing changed", x.deed(0, 2), 2);
         due("nothing changed today", x.plate(0, 0), 2);
         x.change(0, 6);
@@ -770,6 +796,9 @@ public final class PromiseTests {
         due("9 at most together", z.feeds(0, 0), NONE);
         z.change(0, 0);
         due("0 is not enough", z.feeds(0, 0), NONE);
+        FedStatues nine = of("statue s at 0;dish d costs 0 warm 1;deed s d 2;eater e hunger 9 at 0;leaves if(siege=0,told,0);");
+        nine.change(0, 0);
+        due("nine more", nine.feeds(0, 0), 9);
         FedStatues w = of("statue s at 0;dish d costs 0 warm 1;dish f costs 0 warm 1;deed s d 2;deed s f 1;eater e hunger 6 at 0;");
         due("like deeds", w.feeds(0, 1), 0);
         due("three more", w.feeds(0, 0), 3);
@@ -827,6 +856,10 @@ public final class PromiseTests {
         due("nobody", x.came(0), 1);
         due("nobody in all", x.came(1), 0);
         due("nobody in some", x.came(2), 0);
+        due("without a siege", of("statue s at 0;dish d costs 0 warm 1;deed s d 2;leaves if(siege=0,told,0);").plate(0, 1), 2);
+        FedStatues y = of("statue s at 0;dish d costs 0 warm 1;deed s d 2;leaves if(siege=0,told,0);");
+        seenBy(y, bytes(0, 2));
+        due("came without a siege", y.came(0), 1);
         seenBy(x, bytes(0, 2, 0, 0));
         due("against each other", x.came(0), 0);
         due("without, all", x.came(1), 0);
@@ -863,6 +896,26 @@ public final class PromiseTests {
         FedStatues z = of("statue a at 0;statue b at 0;dish d costs 0 warm 1;dish f costs 0 warm 1;deed a d 1;deed b f 1;"
             + "eater e hunger 1 at 0;eater g hunger 1 at 0;likes e d 11;likes e f 5;likes g d 11;likes g f 5;");
         due("5 is 5", z.rest(NONE), 1);
+        String many = "statue a at 0;statue b at 0;statue c at 0;statue d at 0;statue e at 0;dish x costs 0 warm 1;dish y costs 0 warm 1;"
+            + "deed a y 4;deed b x 2;deed d x 2;deed d y 6;";
+        int[][] likes = {{16, 87}, {18, 50}, {10, 57}, {10, 61}, {71, 93}, {41, 10}, {26, 44}, {10, 9}};
+        StringBuilder text = new StringBuilder(many);
+        for (int i = 0; i < 8; i++) {
+            String name = "q" + (char) ('a' + i);
+            text.append("eater ").append(name).append(" hunger 1 at 0;likes ").append(name).append(" x ").append(likes[i][0])
+                .append(";likes ").append(name).append(" y ").append(likes[i][1]).append(';');
+        }
+        due("six rounds", of(text.toString()).rest(NONE), 6);
+        // 24 alone or 24 by two; the third has 12 by two or 8 by three
+        FedStatues w = of("statue a at 0;statue b at 0;statue c at 0;dish d costs 0 warm 1;deed a d 6;deed b d 5;deed c d 1;"
+            + "eater e hunger 1 at 0;eater f hunger 1 at 0;eater g hunger 1 at 0;eater h hunger 1 at 0;");
+        // e: 60/4=15, 50, 10: b; f: 60/3=20, 50/2=25: b; g: 60/2=30, 50/3=16: a; h: 30, 16: a
+        // e: 25, 60/3=20: b; f: b; g: 30: a; h: a
+        due("two rounds", w.rest(NONE), 2);
+        int[] rest = {1, 1, 0, 0};
+        for (int i = 0; i < 4; i++) {
+            due("rest of " + i, w.rest(i), rest[i]);
+        }
     }
 
     private static void p23Days() {
@@ -931,7 +984,28 @@ public final class PromiseTests {
         due("seed", x.seed((int) seed), true);
         due("chance", x.chance(1), 0);
         due("grown, then the bequest", x.has(5), 150 + gift);
+        seed = 0;
+        while ((1103515245L * ((1103515245L * seed + 12345) % 2147483648L) + 12345) % 2147483648L / 64 % 100 != 10) {
+            seed++;
+        }
+        FedStatues ten = of("fund 100 grows 0;");
+        ten.seed((int) seed);
+        ten.chance(1);
+        due("10 is not below 10", ten.has(5), 100);
+        FedStatues cached = of("statue s at 0;dish d costs 1 warm 1;deed s d 5;fund 7 grows 0;");
+        due("today", cached.plate(0, 0), 5);
+        due("later", cached.later(2, 3), 1);
+        cached.seed((int) seed);
+        cached.chance(1);
+        due("another today", cached.plate(0, 0), 0);
+        due("another later", cached.later(1, 3), 1);
         FedStatues y = atDay(5, 999990);
+        for (seed = 0; ; seed++) {
+            long b = (1103515245L * ((1103515245L * seed + 12345) % 2147483648L) + 12345) % 2147483648L;
+            if (b / 64 % 100 < 10 && (1103515245L * b + 12345) % 2147483648L / 64 % 100 > 20) {
+                break;
+            }
+        }
         y.seed((int) seed);
         y.chance(1);
         due("999999 at most", y.has(5), 999999);
@@ -973,7 +1047,10 @@ public final class PromiseTests {
         due("nothing", x.undo(), false);
         x.days(1);
         int kept = x.has(10);
-        int first = x.kept(0, 1);
+        int[] deeds = new int[kept];
+        for (int k = 0; k < kept; k++) {
+            deeds[k] = x.kept(k, 1);
+        }
         x.chance(3);
         int seed = x.has(12);
         x.change(0, 7);
@@ -987,7 +1064,9 @@ public final class PromiseTests {
         due("day", x.has(4), 1);
         due("fund", x.has(5), 11);
         due("kept", x.has(10), kept);
-        due("kept first", x.kept(0, 1), first);
+        for (int k = 0; k < kept; k++) {
+            due("kept again " + k, x.kept(k, 1), deeds[k]);
+        }
         due("undo days", x.undo(), true);
         due("nothing kept", x.has(10), 0);
         due("fund at first", x.has(5), 20);
@@ -1106,13 +1185,50 @@ public final class PromiseTests {
         onImage(x, false, image(65535, 1, 1, 1, 1));
         onImage(x, false, image(1, 1000000, 1, 1, 1));
         onImage(x, false, image(1, 1, 1, 1, 10));
-        due("status(5)", x.status(5), good.length + 7);
+        onImage(x, false, image(1, 1, 10, 1, 1));
+        due("status(5)", x.status(5), good.length + 8);
         due("stays", x.has(5), 65540);
         due("acts stay", x.has(11), 1);
         due("tape goes", x.feed(0, 0, 0, 0, 0), 20);
         onImage(x, true, image(9999, 999999, 9, 9, 9));
         due("today at the last day", x.plate(0, 0), 9);
         due("nothing ahead", x.later(1, 0), NONE);
+    }
+
+    /** As many of all as can be. */
+    private static void fullCity() {
+        StringBuilder text = new StringBuilder();
+        for (char c = 'a'; c <= 'h'; c++) {
+            text.append("statue s").append(c).append(" at 0;dish d").append(c).append(" costs 1 warm 1;eater e").append(c)
+                .append(" hunger 20 at 0;");
+        }
+        for (char c = 'a'; c <= 'h'; c++) {
+            text.append("deed s").append(c).append(" d").append(c).append(" 9;deed sa d").append(c == 'a' ? 'b' : c).append(" 9;");
+        }
+        String city = text.toString().replace("deed sa dh 9;", "deed sa dh 9;fund 9999 grows 0;").replaceFirst("deed sa db 9;", "deed sb da 9;");
+        FedStatues x = of(city);
+        due("full deeds", x.has(2), 16);
+        due("full portions", x.has(9), 144);
+        due("full days", x.days(1), 144);
+        due("full kept", x.has(10), 144);
+        due("full kept, last eater", x.kept(143, 0), 7);
+        due("full kept, first of the last", x.kept(140, 0), 7);
+        due("full kept, seventh", x.kept(139, 0), 6);
+        due("full hunger", x.later(1, 1), 16);
+        due("full keep", x.keep(9999, 1), 144);
+        due("full keep, bits", x.keep(9999, 0), 65535);
+        due("full keep less one", x.keep(143, 0), 32767);
+        due("full image", x.image(), 22);
+        due("full image, last deed", x.octet(20), 9);
+        due("full came", x.came(0), 256);
+        due("full came, some", x.came(2), 255);
+        due("full round", x.round(7), 7);
+        due("full rest", x.rest(7) >= 0, true);
+        due("full plate", x.plate(15, 1), 0);
+        due("full change", x.change(15, 0), 9);
+        due("full feeds", x.feeds(7, 0), NONE);
+        due("full letters", x.letter(2, 7, 1), 8);
+        due("full likes", x.eater(7, 17), 10);
     }
 
     private static void p33Status() {
@@ -1179,6 +1295,7 @@ public final class PromiseTests {
         p31Octet();
         p32On();
         p33Status();
+        fullCity();
         System.out.println(asked + " answers asked for, " + wrong + " not as due");
         if (wrong != 0) {
             System.exit(1);
