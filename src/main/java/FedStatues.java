@@ -343,6 +343,7 @@ public final class FedStatues {
             guests.deed[row] = tapedByte(2 * row);
             guests.left[row] = tapedByte(2 * row + 1);
         }
+        guests.known = false;
         return guests.rows;
     }
 
@@ -350,8 +351,10 @@ public final class FedStatues {
         if (what < 0 || what > 2) {
             return NONE;
         }
-        work.cook(town, now.portions, now.day, now.coins, 0);
-        guests.reckon(town, work);
+        if (!guests.known) {
+            work.cook(town, now.portions, now.day, now.coins, 0);
+            guests.reckon(town, work);
+        }
         switch (what) {
             case 0: return guests.sets;
             case 1: return guests.inAll;
@@ -606,6 +609,7 @@ public final class FedStatues {
     /** What was reckoned from the state before must not be answered any more. */
     private void stateChanged() {
         todayKnown = false;
+        guests.known = false;
         ahead.restart(now);
     }
 
@@ -1098,6 +1102,7 @@ public final class FedStatues {
         final int[] deed = new int[MOST_SEEN];
         final int[] left = new int[MOST_SEEN];
         int rows;
+        boolean known;
         int sets;
         int inAll;
         int inSome;
@@ -1112,6 +1117,7 @@ public final class FedStatues {
             if (sets == 0) {
                 inAll = 0;
             }
+            known = true;
         }
 
         /** All sets that begin like this one, with the plates as those before this eater left them. */

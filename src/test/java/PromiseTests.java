@@ -132,6 +132,16 @@ public final class PromiseTests {
         due("end(3)", x.end(3), true);
         due("end(4)", x.end(4), false);
         due("feed behind 3", x.feed(1, 2, 3, 4, 5), 23);
+        // what stood behind the end is gone
+        FedStatues y = new FedStatues();
+        tape(y, "pace 5;fund 12345678");
+        y.end(14);
+        due("cut behind 12", y.city(), NONE);
+        due("cut behind 12, at", y.fault(1), 14);
+        tape(y, "statue abcdefgh");
+        y.end(8);
+        due("cut behind a", y.city(), NONE);
+        due("cut behind a, at", y.fault(1), 8);
         due("status(0)", x.status(0), 6);
     }
 
@@ -413,6 +423,7 @@ public final class PromiseTests {
         due("statue(0,4)", x.statue(0, 4), NONE);
         due("statue(0,-1)", x.statue(0, -1), NONE);
         x.change(0, 0);
+        due("warm by one deed", of("statue s at 0;dish d costs 1 warm 7;deed s d 1;").statue(0, 3), 7);
         due("deeds stay", x.statue(0, 1), 2);
         due("portions change", x.statue(0, 2), 1);
     }
@@ -497,7 +508,7 @@ public final class PromiseTests {
         sums();
     }
 
-    /** What leaves leaves, on a day of its own: 9 told, each for no coin, fund and day as given. */
+    /** What leaves leaves of a deed: 9 told, rank 1, for 2 coins each, with a fund of 60 on day 0. */
     private static void leaves(String sum, int want) {
         FedStatues x = of("statue s at 0;dish d costs 0 warm 1;dish e costs 2 warm 1;deed s d 1;deed s e 9;fund 60 grows 0;leaves "
             + sum + ";");
@@ -867,6 +878,10 @@ public final class PromiseTests {
         seenBy(x, bytes(1, 0));
         x.days(1);
         due("seen stays", x.came(0), 2);
+        x.days(1);
+        due("without figs", x.came(0), 4);
+        x.undo();
+        due("with figs again", x.came(0), 2);
         x.undo();
         due("seen stays with undo", x.came(0), 2);
         onImage(x, true, image(0, 20, 2, 3, 1));
