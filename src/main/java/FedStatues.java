@@ -872,8 +872,6 @@ public final class FedStatues {
         void cook(City town, int[] portions, int day, int coins, int siege) {
             fund = coins;
             meals = 0;
-            Arrays.fill(ate, 0);
-            Arrays.fill(first, NONE);
             facts[Sums.DAY] = day;
             facts[Sums.SIEGE] = siege;
             for (int deed = 0; deed < town.deeds; deed++) {

@@ -1,6 +1,9 @@
+import java.io.IOException;
 import java.lang.reflect.Method;
 import java.lang.reflect.Modifier;
 import java.nio.charset.StandardCharsets;
+import java.nio.file.Files;
+import java.nio.file.Path;
 import java.util.Arrays;
 import java.util.Comparator;
 import java.util.Set;
@@ -20,6 +23,7 @@ public final class PromiseBoundaryTests {
     /** Two statues, two dishes, three deeds (3 and 4 and 1 coins), two eaters; all are fed but one portion. */
     private static final String TOWN = "statue a at 0;statue bcdefg at 9;dish d costs 1 warm 9;dish f costs 2 warm 999;deed a d 3;deed bcdefg f 2;deed bcdefg d 1;"
         + "eater e hunger 6 at 0;eater gh hunger 1 at 9;likes e f 12;fund 20 grows 10;siege 40;";
+    private static final String DOCUMENT = document();
     private static int wrong = 0;
     private static int asked = 0;
     private static int sentences = 0;
@@ -28,10 +32,29 @@ public final class PromiseBoundaryTests {
 
     // ---- what the tests ask with
 
-    private static void says(int promise, String words) {
+    private static void says(int promise, String... words) {
         sentences++;
         promised.add(promise);
-        sentence = "Promise " + promise + ": " + words;
+        sentence = "Promise " + promise + ": " + String.join(" .. ", words);
+        String told = told(promise);
+        for (String part : words) {
+            due("whether the document has \"" + part + "\"", told.isEmpty() || told.contains(part), true);
+        }
+    }
+
+    /** What the document says under the promise's heading; nothing where there is no document. */
+    private static String told(int promise) {
+        int from = DOCUMENT.indexOf("## Promise " + promise + ":");
+        int to = DOCUMENT.indexOf("## ", from + 3);
+        return from < 0 || to < 0 ? "" : DOCUMENT.substring(from, to);
+    }
+
+    private static String document() {
+        try {
+            return Files.readString(Path.of("../shared/DOC.md")).replaceAll("\\s+", " ");
+        } catch (IOException none) {
+            return "";
+        }
     }
 
     private static void due(String what, long got, long want) {
@@ -227,7 +250,7 @@ public final class PromiseBoundaryTests {
     }
 
     private static void p01EachOfItsOwn() {
-        says(1, "A new object has nothing of another one.");
+        says(1, "No STATUES, no EATERS");
         FedStatues x = busy();
         String before = allOf(x);
         FedStatues y = new FedStatues();
@@ -310,13 +333,26 @@ public final class PromiseBoundaryTests {
     }
 
     private static void p03CutWords() {
-        says(3, "The tape has its first n bytes alone (what stood behind is not read)");
+        says(3, "The tape has its first n bytes alone");
         FedStatues x = new FedStatues();
         x.feed(0x66756e64, 0x20313233, 0x34352067, 0x726f7773, 0x20313b20);
         x.end(9);
         due("fund 1234", x.city(), NONE);
         due("ends too soon", x.fault(0), 1);
         due("at its length", x.fault(1), 9);
+        // "pace 12", cut behind 1
+        x.feed(0x70616365, 0x20313220, 0x20202020, 0x20202020, 0x20202020);
+        x.end(6);
+        due("pace 1", x.city(), NONE);
+        due("not read on", x.fault(1), 6);
+        String blanks = " ".repeat(1594);
+        due("a number at the tape's end", city(x, blanks + "pace 1"), NONE);
+        due("its fault", x.fault(1), 1600);
+        due("a word at the tape's end", city(x, blanks.substring(1) + "statue "), NONE);
+        due("the word's fault", x.fault(1), 1600);
+        due("half a word at the tape's end", city(x, blanks.substring(2) + "statue a"), NONE);
+        due("half a word's fault", x.fault(1), 1600);
+        due("a statement at the tape's end", city(x, blanks.substring(1) + "pace 9;"), 1);
         x.feed(0x73746174, 0x75652061, 0x62636465, 0x66676869, 0x20202020);
         x.end(13);
         due("statue abcdef", x.city(), NONE);
@@ -408,7 +444,8 @@ public final class PromiseBoundaryTests {
     }
 
     private static void p06HowMany() {
-        says(6, "How many there are: 0 STATUES .. 12 the seed (none, and as many as can be)");
+        says(6, "How many there are: 0 STATUES, 1 DISHES, 2 DEEDS, 3 EATERS, 4 DAY, 5 coins in the fund, 6 grows, 7 pace, 8 siege, 9 portions told by all DEEDS, "
+            + "10 portions KEPT, 11 ACTS that can be undone, 12 the seed.");
         FedStatues x = full();
         int[] has = {8, 8, 16, 8, 0, 9999, 0, 1, 0, 144, 0, 0, 1};
         for (int i = 0; i < has.length; i++) {
@@ -427,7 +464,7 @@ public final class PromiseBoundaryTests {
     }
 
     private static void p07Letters() {
-        says(7, "Letter k (0 .. 5) of the NAME: 1 .. 26; 0 behind it");
+        says(7, "Letter k (0 .. 5) of the NAME of a STATUE (kind 0), a DISH (1), an EATER (2): 1 .. 26; 0 behind it");
         FedStatues x = of("statue a at 0;statue azazaz at 0;dish zz costs 1 warm 1;eater mnopq hunger 1 at 0;");
         int[][] want = {{0, 0, 1, 0, 0, 0, 0, 0}, {0, 1, 1, 26, 1, 26, 1, 26}, {1, 0, 26, 26, 0, 0, 0, 0}, {2, 0, 13, 14, 15, 16, 17, 0}};
         for (int[] each : want) {
@@ -546,6 +583,12 @@ public final class PromiseBoundaryTests {
         due("on day 0 again", x.plate(0, 0), 1);
         x.give(1);
         due("with a coin more", x.plate(0, 0), 1);
+        due("a day later", x.later(1, 0), 9);
+        x.give(100);
+        due("a day later with more coins", x.later(1, 0), 109);
+        x.chance(1);
+        due("on day 1 behind chance", x.plate(0, 0), 2);
+        due("a day later behind chance", x.later(1, 0), x.has(5) - 2);
         on(x, image(6, 6, 9));
         due("6 coins are not 7", x.plate(0, 2), 1);
         on(x, image(6, 7, 9));
@@ -594,7 +637,7 @@ public final class PromiseBoundaryTests {
     }
 
     private static void p14NoughtDays() {
-        says(14, "Behind n DAYS AHEAD (0 .. 60); 1, 2, 3: 0 for n 0");
+        says(14, "Behind n DAYS AHEAD (0 .. 60)", "(1, 2, 3: 0 for n 0)");
         FedStatues x = of(TOWN);
         due("coins now", x.later(0, 0), 20);
         due("hunger for 0", x.later(0, 1), 0);
@@ -689,6 +732,12 @@ public final class PromiseBoundaryTests {
         noneFor("of eight", y::round, 8, 9);
         due("without", new FedStatues().round(NONE), 0);
         noneFor("without", new FedStatues()::round, 0, 1);
+        due("of sixteen deeds", full().round(NONE), 1);
+        due("of sixteen deeds, the second", full().round(1), 7);
+        due("one city on", city(y, TOWN), 12);
+        due("two cities on", city(y, "statue s at 2;statue r at 1;dish d costs 1 warm 2;deed s d 1;"), 4);
+        due("no deed of the cities before", y.round(NONE), 2);
+        due("its first", y.round(0), 0);
         x.change(0, 0);
         due("a deed of nothing is one", x.round(0), 0);
     }
@@ -706,7 +755,7 @@ public final class PromiseBoundaryTests {
     }
 
     private static void p18SoManyCoins() {
-        says(18, "KEEP for so many coins (0 .. 9999). NONE when it can't be, or for others");
+        says(18, "KEEP for so many coins (0 .. 9999)", "NONE when it can't be, or for others");
         FedStatues x = of(TOWN);
         for (int what = 0; what < 3; what++) {
             int asks = what;
@@ -865,6 +914,44 @@ public final class PromiseBoundaryTests {
         noneFor("full rest", w::rest, 8, -2);
     }
 
+    /** A statue with a dish of its own for each portions, an eater for each row of how he likes these. */
+    private static String shares(int[] portions, int[]... likes) {
+        StringBuilder text = new StringBuilder();
+        for (int s = 0; s < portions.length; s++) {
+            text.append("statue s# at 0;dish d# costs 0 warm 1;deed s# d# ".replace('#', (char) ('a' + s))).append(portions[s]).append(';');
+        }
+        for (int e = 0; e < likes.length; e++) {
+            text.append("eater e# hunger 1 at 0;".replace('#', (char) ('a' + e)));
+            for (int s = 0; s < portions.length; s++) {
+                text.append("likes e").append((char) ('a' + e)).append(" d").append((char) ('a' + s)).append(' ').append(likes[e][s]).append(';');
+            }
+        }
+        return text.toString();
+    }
+
+    private static void p22WhichRound() {
+        says(22, "in which round nobody took another one (eater NONE; 13 if 12 were not enough), the STATUE of an EATER then");
+        due("the first", of(shares(new int[] {9, 9}, new int[] {9, 9})).rest(NONE), 1);
+        due("the second", of(shares(new int[] {8, 9}, new int[] {9, 9})).rest(NONE), 2);
+        due("the second, his statue", of(shares(new int[] {8, 9}, new int[] {9, 9})).rest(0), 1);
+        // the first goes to b (25 by two is less than 13), the second to b from there; then the first is better off at a
+        FedStatues x = of(shares(new int[] {1, 1}, new int[] {25, 13}, new int[] {10, 99}));
+        due("the third", x.rest(NONE), 3);
+        due("the third, the first eater", x.rest(0), 0);
+        due("the third, the second eater", x.rest(1), 1);
+        // More than ten rounds were not found in a long search; a share only grows by a step, so all come to rest.
+        FedStatues y = of(shares(new int[] {4, 4, 5}, new int[] {65, 90, 92}, new int[] {87, 29, 98}, new int[] {30, 15, 34}, new int[] {67, 19, 55}, new int[] {76, 13, 63},
+            new int[] {46, 49, 63}, new int[] {32, 48, 66}, new int[] {66, 76, 80}));
+        due("the eighth", y.rest(NONE), 8);
+        int[] rest = {1, 2, 2, 0, 0, 2, 2, 1};
+        for (int e = 0; e < 8; e++) {
+            due("the eighth, statue of " + e, y.rest(e), rest[e]);
+        }
+        FedStatues z = of(shares(new int[] {7, 2, 8, 8}, new int[] {43, 88, 76, 13}, new int[] {17, 81, 99, 50}, new int[] {72, 34, 87, 12}, new int[] {80, 16, 94, 67},
+            new int[] {50, 26, 12, 36}, new int[] {94, 89, 99, 72}, new int[] {22, 18, 67, 60}, new int[] {6, 19, 88, 67}));
+        due("the tenth", z.rest(NONE), 10);
+    }
+
     // ---- acts
 
     private static void p23SoManyDays() {
@@ -991,6 +1078,15 @@ public final class PromiseBoundaryTests {
             x.seed(Integer.parseInt(before.split(" ")[13]));
             same("all behind undo of " + act, allOf(x), before);
         }
+        FedStatues y = of(TOWN);
+        y.days(1);
+        String kept = allOf(y);
+        y.change(0, 0);
+        y.days(1);
+        due("other portions are kept", y.kept(0, 1), 1);
+        y.undo();
+        y.undo();
+        same("the portions kept ahead of it", allOf(y), kept);
     }
 
     private static void p27NoneCanBe() {
@@ -1126,6 +1222,9 @@ public final class PromiseBoundaryTests {
         due("without deeds", on(y, image(7, 8)), true);
         due("its day", y.has(4), 7);
         FedStatues z = full();
+        due("hunger on a full day", z.later(1, 1), 16);
+        due("left on a full day", z.later(1, 2), 0);
+        due("broken on a full day", z.later(1, 3), 0);
         due("of sixteen", on(z, image(7, 8, 1, 2, 3, 4, 5, 6, 7, 8, 9, 0, 1, 2, 3, 4, 5, 6)), true);
         due("the sixteenth", z.deed(15, 2), 6);
     }

@@ -1,6 +1,9 @@
+import java.io.IOException;
 import java.lang.reflect.Method;
 import java.lang.reflect.Modifier;
 import java.nio.charset.StandardCharsets;
+import java.nio.file.Files;
+import java.nio.file.Path;
 import java.util.Arrays;
 import java.util.Comparator;
 
@@ -15,6 +18,7 @@ public final class TermsBoundaryTests {
     private static final String E = "eater e hunger 1 at 0;";
     private static final String[] OWN_WORDS = ("statue at dish costs warm deed eater hunger likes leaves draws fund grows pace siege day told rank off left"
         + " if or and not all min max").split(" ");
+    private static final String DOCUMENT = document();
     private static int wrong = 0;
     private static int asked = 0;
     private static int sentences = 0;
@@ -22,9 +26,20 @@ public final class TermsBoundaryTests {
 
     // ---- what the tests ask with
 
-    private static void says(String where, String words) {
+    private static void says(String where, String... words) {
         sentences++;
-        sentence = where + ": " + words;
+        sentence = where + ": " + String.join(" .. ", words);
+        for (String part : words) {
+            due("whether the document has \"" + part + "\"", DOCUMENT.isEmpty() || DOCUMENT.contains(part), true);
+        }
+    }
+
+    private static String document() {
+        try {
+            return Files.readString(Path.of("../shared/DOC.md")).replaceAll("\\s+", " ");
+        } catch (IOException none) {
+            return "";
+        }
     }
 
     private static void due(String what, long got, long want) {
@@ -272,15 +287,27 @@ public final class TermsBoundaryTests {
         for (int i = 0; i < 4; i++) {
             due("again without has(" + (5 + i) + ")", x.has(5 + i), without[i]);
         }
+        for (int cities = 1; cities <= 3; cities++) {
+            FedStatues z = new FedStatues();
+            for (int i = 0; i < cities; i++) {
+                due("a city with all", city(z, "fund 5 grows 6;pace 7;siege 8;" + S + D + "deed s d 1;" + E + "likes e d 5;leaves 1;draws 1;"), 10);
+            }
+            due("a fault between", city(z, "fund 15 grows 16;pace 17;siege 18;#"), NONE);
+            due("nothing behind " + cities, city(z, ""), 0);
+            for (int i = 0; i < 4; i++) {
+                due("behind " + cities + " without has(" + (5 + i) + ")", z.has(5 + i), without[i]);
+                due("behind " + cities + " none of has(" + i + ")", z.has(i), 0);
+            }
+        }
     }
 
     // ---- I. sums
 
-    /** Whether a sum gives just so much: the deed leaves 1 where it does, 0 where not. */
+    /** Whether a sum gives just so much: the deed leaves 7 where it does, 2 where not. */
     private static void sum(String sum, int want) {
         String number = want < 0 ? "0-(" + thousands(-want) + ")" : thousands(want);
-        FedStatues x = of(S + D + "deed s d 1;leaves if(" + sum + "=" + number + ",1,0);");
-        due(sum + " is " + want, x.plate(0, 0), 1);
+        FedStatues x = of(S + D + "deed s d 9;leaves if(" + sum + "=" + number + ",7,2);");
+        due(sum + " is " + want, x.plate(0, 0), 7);
     }
 
     private static String thousands(int n) {
@@ -366,7 +393,7 @@ public final class TermsBoundaryTests {
     }
 
     private static void one16Tests() {
-        says("Terms I", "the first SUM where the TEST holds, else the second one; SIGN < or > or =");
+        says("Terms I", "the first SUM where the TEST holds, else the second one", "SIGN < or > or =");
         for (int a = 0; a <= 2; a++) {
             sum("if(" + a + "<1,5,6)", a < 1 ? 5 : 6);
             sum("if(" + a + ">1,5,6)", a > 1 ? 5 : 6);
@@ -376,6 +403,14 @@ public final class TermsBoundaryTests {
         sum("min(3,2)", 2);
         sum("max(3,2)", 3);
         sum("max(0-3,0-2)", -2);
+        sum("if(all,5,6)+1", 6);
+        sum("2*if(not all,5,6)-1", 11);
+        sum("min(if(1<2,3,4),if(1>2,1,8))*10", 30);
+        for (String held : new String[] {"all", "1<2", "2>1", "1=1", "all and all", "all or all", "[all]", "not not all", "1<2 and 2>1", "1=2 or 1=1"}) {
+            sum("if(" + held + ",5,6)", 5);
+            sum("if(not[" + held + "],5,6)", 6);
+            sum("if(not not[" + held + "],5,6)", 5);
+        }
         // or of boths; the second of each may fail
         String[] truth = {"not all", "all"};
         for (int i = 0; i < 8; i++) {
@@ -427,6 +462,28 @@ public final class TermsBoundaryTests {
     }
 
     // ---- I. names, numbers, blanks
+
+    private static void one19Parts() {
+        says("Terms I", "PART: N; day; fund; in leaves: told; costs; rank; siege; in draws: likes; off; hunger; left; ( SUM ) ; min ( SUM , SUM ) ; max ( SUM , SUM ) ; if ( TEST , SUM , SUM )");
+        String[] both = {"0", "9999", "day", "fund", "(1)", "min(1,2)", "max(1,2)", "if(all,1,2)"};
+        String[] inLeaves = {"told", "costs", "rank", "siege"};
+        String[] inDraws = {"likes", "off", "hunger", "left"};
+        String[] inNone = {"all", "not all", "[all]", "1=1", "", ")", "()", "-1", "+1", "*1", "min", "min(1)", "max(1,2,3)", "if(1,2,3)", "if(all,1)", "at", "nosuch", "1+", "1 1"};
+        for (String part : both) {
+            good("leaves " + part + ";draws " + part + ";", 2);
+        }
+        for (int i = 0; i < 4; i++) {
+            good("leaves " + inLeaves[i] + ";draws " + inDraws[i] + ";", 2);
+            fault(1, "leaves ", inDraws[i] + ";");
+            fault(1, "draws ", inLeaves[i] + ";");
+            fault(1, "leaves min(1,", inDraws[i] + ");");
+            fault(1, "draws if(1=", inLeaves[i] + ",1,2);");
+        }
+        for (String part : inNone) {
+            due("leaves " + part, city(new FedStatues(), "leaves " + part + ";"), NONE);
+            due("draws " + part, city(new FedStatues(), "draws " + part + ";"), NONE);
+        }
+    }
 
     private static void one20Names() {
         says("Terms I", "NAMES: 1 to 6 letters");
@@ -503,7 +560,7 @@ public final class TermsBoundaryTests {
     }
 
     private static void one25OwnWords() {
-        says("Terms I", "OWN WORDS, which no NAME is");
+        says("Terms I", "OWN WORDS, which no NAME is", "an OWN WORD where a NAME must be");
         due("own words", OWN_WORDS.length, 27);
         for (String own : OWN_WORDS) {
             fault(1, "statue ", own + " at 0;");
@@ -638,6 +695,19 @@ public final class TermsBoundaryTests {
         fault(5, "leaves if(" + "not ".repeat(6), "not all");
         good("draws if(not[not[not(1+2)=3]],1,2);", 1);
         fault(5, "draws if(not[not[not(", "(1+2))=3]],1,2);");
+        for (String each : new String[] {"min(@,1)", "min(1,@)", "max(@,1)", "max(1,@)", "if(all,@,1)", "if(all,1,@)", "if(@=1,1,2)", "if(1=@,1,2)"}) {
+            good("leaves " + each.replace("@", "((((((1))))))") + ";", 1);
+            fault(5, "leaves " + each.substring(0, each.indexOf('@')) + "((((((", "(1");
+        }
+        for (String each : new String[] {"if([all and @=1],1,2)", "if([all or @=1],1,2)", "if(not @<1,1,2)", "(min(1,@))", "max(1,(2+@))", "(3*(@))"}) {
+            good("leaves " + each.replace("@", "(((((1)))))") + ";", 1);
+            fault(5, "leaves " + each.substring(0, each.indexOf('@')) + "(((((", "(1");
+        }
+        fault(5, "leaves 1+" + "(".repeat(7), "(1");
+        fault(5, "leaves 1*" + "(".repeat(7), "(1");
+        fault(5, "leaves if(all or " + "not ".repeat(6), "not all");
+        fault(5, "leaves if(all and " + "not ".repeat(6), "not all");
+        fault(5, "leaves if(all and [" + "not ".repeat(5), "not all");
         // closed ones are open no more
         good("leaves " + "(".repeat(7) + "1" + ")".repeat(7) + "+" + "(".repeat(7) + "1" + ")".repeat(7) + ";", 1);
         good("leaves if(" + "not ".repeat(6) + "all and " + "not ".repeat(6) + "1=1 or " + "not ".repeat(6) + "all,(((((1))))),2);", 1);
@@ -713,7 +783,7 @@ public final class TermsBoundaryTests {
     }
 
     private static void two03CoinsForAll() {
-        says("Terms II", "as long as the fund has coins for all of these: they are paid; else the DEED is BROKEN (nothing is put; the next one is tried)");
+        says("Terms II", "as long as the fund has coins for all of these: they are paid", "else the DEED is BROKEN (nothing is put; the next one is tried)");
         String town = S + "dish d costs 3 warm 1;dish f costs 1 warm 1;dish g costs 0 warm 1;deed s d 4;deed s f 2;deed s g 9;";
         int[][] want = {{0, 0, 0}, {1, 0, 0}, {2, 0, 2}, {11, 0, 2}, {12, 4, 0}, {13, 4, 0}, {14, 4, 2}};
         for (int[] each : want) {
@@ -755,8 +825,22 @@ public final class TermsBoundaryTests {
         due("nothing put is empty", of(S + D + "deed s d 1;eater e hunger 1 at 0;leaves 0;draws 1;").meal(0, 1), 0);
     }
 
+    private static void two05EaterByEater() {
+        says("Terms II", "EATER by EATER, from where he sleeps on");
+        FedStatues x = of("statue a at 0;statue b at 9;" + D + "deed a d 1;deed b d 1;eater e hunger 1 at 5;eater f hunger 1 at 4;eater g hunger 1 at 0;");
+        due("nearer to b", x.meal(0, 2), 1);
+        due("then the other one", x.meal(1, 2), 0);
+        due("none left for the last", x.meal(2, 2), NONE);
+        due("who still wants", x.meal(2, 0), 1);
+        // he goes on from where he ate: 9 steps are too many with 10 likes less one
+        FedStatues y = of("statue a at 0;statue b at 10;" + D + "deed a d 1;deed b d 1;eater e hunger 2 at 4;");
+        due("ten off from a", y.meal(0, 1), 1);
+        FedStatues z = of("statue a at 0;statue b at 9;" + D + "deed a d 1;deed b d 1;eater e hunger 2 at 4;");
+        due("nine off from a", z.meal(0, 1), 2);
+    }
+
     private static void two06AsLongAsHeWants() {
-        says("Terms II", "as long as he wants more (his hunger at first); What he still wants then is HUNGER");
+        says("Terms II", "as long as he wants more (his hunger at first)", "What he still wants then is HUNGER");
         String town = S + D + "deed s d 5;eater e hunger ";
         for (int hunger = 1; hunger <= 20; hunger++) {
             FedStatues x = of(town + hunger + " at 0;");
@@ -969,6 +1053,10 @@ public final class TermsBoundaryTests {
             due("the last from " + each[0], x.later(each[1], 0), 1);
             due("behind it from " + each[0], x.later(each[1] + 1, 0), NONE);
         }
+        FedStatues sums = of(S + D + "deed s d 9;fund 90 grows 0;siege 100;leaves if(siege=0,day,9);");
+        due("each by its day, without a siege", sums.later(4, 0), 90 - 1 - 2 - 3);
+        sums.days(2);
+        due("each by its day from now on", sums.later(2, 0), 89 - 2 - 3);
         FedStatues y = of(S + D + "deed s d 1;fund 60 grows 0;");
         due("broken on the 61st is not ahead", y.broken(0), NONE);
         y.days(1);
@@ -995,8 +1083,8 @@ public final class TermsBoundaryTests {
     }
 
     private static void three03RoundOrder() {
-        says("Terms III", "an order of all STATUES that have a DEED; the one that ends soonest, of like ones the first");
-        FedStatues x = of("statue a at 5;statue b at 5;statue c at 0;statue q at 7;statue d at 5;statue e at 2;"
+        says("Terms III", "an order of all STATUES that have a DEED", "the one that ends soonest, of like ones the first");
+        FedStatues x = of("statue a at 5;statue b at 5;statue c at 0;statue q at 7;statue d at 5;statue e at 2;statue r at 1;statue u at 5;"
             + "dish z costs 1 warm 999;deed d z 1;deed b z 1;deed a z 1;deed c z 1;deed e z 1;");
         int[] order = {2, 5, 0, 1, 4};
         due("minutes", x.round(NONE), 5);
@@ -1027,6 +1115,10 @@ public final class TermsBoundaryTests {
         for (int[] each : want) {
             due("keep for " + each[0], x.keep(each[0], 0), each[1]);
         }
+        // 6 for 3, 3 for 3, 5 for 5: the last is needed, and then there are not coins for the first
+        FedStatues y = of(S + "statue t at 0;dish d costs 2 warm 1;dish f costs 1 warm 1;deed s d 3;deed s f 3;deed t f 5;");
+        due("what is left decides", y.keep(8, 0), 6);
+        due("what is left decides, portions", y.keep(8, 1), 8);
         x.change(0, 4);
         due("8 coins now", x.keep(7, 0), 4);
         due("whole: 8 for 4", x.keep(8, 0), 1);
@@ -1048,6 +1140,7 @@ public final class TermsBoundaryTests {
         due("by the second alone", x.feeds(0, 0), 4);
         due("the second", x.feeds(0, 1), 1);
         due("10 together are too many", of(town + "10 at 0;leaves if(rank=0,0,told);").feeds(0, 0), NONE);
+        due("without a siege", of(town + "7 at 0;siege 100;leaves if(siege=0,told,0);").feeds(0, 0), 1);
         FedStatues y = of(town + "14 at 0;");
         y.change(0, 0);
         due("nine more from nothing", y.feeds(0, 0), 9);
@@ -1074,6 +1167,14 @@ public final class TermsBoundaryTests {
         due("nobody is a set", nobody.came(0), 1);
         seen(nobody, 0, 8);
         due("no set", nobody.came(0), 0);
+        FedStatues sieged = of(S + D + "deed s d 9;siege 100;leaves if(siege=0,told,0);eater e hunger 9 at 0;");
+        seen(sieged, 0, 9);
+        due("without a siege nobody", sieged.came(0), 1);
+        due("asked again", sieged.came(0), 1);
+        sieged.change(0, 8);
+        due("9 are not left of 8", sieged.came(0), 0);
+        sieged.undo();
+        due("but of 9", sieged.came(0), 1);
     }
 
     private static void three08SeenRows() {
@@ -1114,6 +1215,7 @@ public final class TermsBoundaryTests {
         int[] one = {1, 1};
         FedStatues five = of(shares(one, new int[][] {{11, 5}, {11, 5}}));
         due("5 is not more than 5", five.rest(NONE), 1);
+        due("nor than 10 by two", of(shares(one, new int[][] {{10, 5}, {10, 5}})).rest(NONE), 1);
         FedStatues six = of(shares(one, new int[][] {{11, 6}, {11, 6}}));
         due("6 is", six.rest(NONE), 2);
         due("the first goes", six.rest(0), 1);
@@ -1124,7 +1226,8 @@ public final class TermsBoundaryTests {
     }
 
     private static void three10OwnElseFirst() {
-        says("Terms III", "their own, if it is among the best, else the first");
+        says("Terms III", "(at first all the first one); their own, if it is among the best, else the first");
+        due("at first all the first one", of(shares(new int[] {1, 1}, new int[][] {{0, 0}, {0, 0}})).rest(1), 0);
         due("his own first", of(shares(new int[] {1, 1, 1}, new int[][] {{5, 5, 5}})).rest(0), 0);
         due("else the first", of(shares(new int[] {1, 1, 1}, new int[][] {{5, 6, 6}})).rest(0), 1);
         // the second goes to b; then a is as good again (12 alone), and he stays
