@@ -1257,6 +1257,7 @@ public final class FedStatues {
 
         Reader() {
             int word = 0;
+            int shift = LETTER_BITS * NAME_LETTERS;
             int count = 0;
             for (int i = 0; i < OWN_TEXT.length() && count < OWN_WORDS; i++) {
                 char c = OWN_TEXT.charAt(i);
@@ -1264,8 +1265,10 @@ public final class FedStatues {
                     own[count] = word;
                     count++;
                     word = 0;
+                    shift = LETTER_BITS * NAME_LETTERS;
                 } else {
-                    word = withLetter(word, c);
+                    shift -= LETTER_BITS;
+                    word |= c - 'a' + 1 << shift;
                 }
             }
         }
@@ -1306,23 +1309,28 @@ public final class FedStatues {
             at++;
         }
 
+        // A sum's brackets are many calls down already, so the two below call nothing more.
+
         private void readWord() {
             int word = 0;
             int letters = 0;
-            for (; at < length && isLetter(text[at]); at++) {
+            for (; at < length && text[at] >= 'a' && text[at] <= 'z'; at++) {
                 if (letters == NAME_LETTERS) {
                     kind = BAD;
                     trouble = at;
                     return;
                 }
-                word = withLetter(word, text[at]);
+                word = word << LETTER_BITS | text[at] - 'a' + 1;
                 letters++;
             }
-            value = ownNumber(word);
-            kind = OWN;
-            if (value == NONE) {
-                kind = NAME;
-                value = word << LETTER_BITS * (NAME_LETTERS - letters);
+            kind = NAME;
+            value = word << LETTER_BITS * (NAME_LETTERS - letters);
+            for (int i = 0; i < OWN_WORDS; i++) {
+                if (own[i] == value) {
+                    kind = OWN;
+                    value = i;
+                    return;
+                }
             }
         }
 
@@ -1330,7 +1338,7 @@ public final class FedStatues {
             int digits = 0;
             value = 0;
             kind = NUMBER;
-            for (; at < length && isDigit(text[at]); at++) {
+            for (; at < length && text[at] >= '0' && text[at] <= '9'; at++) {
                 if (digits == MOST_DIGITS) {
                     kind = BAD;
                     trouble = at;
@@ -1339,19 +1347,6 @@ public final class FedStatues {
                 value = value * 10 + text[at] - '0';
                 digits++;
             }
-        }
-
-        private int ownNumber(int word) {
-            for (int i = 0; i < OWN_WORDS; i++) {
-                if (own[i] == word) {
-                    return i;
-                }
-            }
-            return NONE;
-        }
-
-        private static int withLetter(int word, int letter) {
-            return word << LETTER_BITS | letter - 'a' + 1;
         }
 
         private static boolean isLetter(int octet) {
@@ -1622,7 +1617,14 @@ public final class FedStatues {
         }
 
         private boolean openBracket(char sign, int open) {
-            return isSign(sign) && open >= MOST_OPEN ? wrong(TOO_DEEP) : takeSign(sign);
+            if (!isSign(sign)) {
+                return wrong(CANNOT_GO_ON);
+            }
+            if (open >= MOST_OPEN) {
+                return wrong(TOO_DEEP);
+            }
+            reader.next();
+            return true;
         }
 
         private boolean addStep(int step) {
